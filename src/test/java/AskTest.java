@@ -82,6 +82,7 @@ public final class AskTest {
         x.convoy(NORTH, 1);
         x.book(0, x.ship(NORTH, 2, false, 1, false, 13));
         x.book(0, x.ship(NORTH, 3, false, 1, false, 3));
+        x.book(0, x.ship(NORTH, 3, false, 1, false, 10));
         Canal.until(x, 2);
         Check.due("not late yet", x.told(0, 6), 39);
         x.minutes(1);
@@ -89,6 +90,7 @@ public final class AskTest {
         x.minutes(50);
         Check.due("once", x.told(0, 6), 42);
         Check.due("nothing of little", x.told(1, 6), 9);
+        Check.due("a tenth of 30", x.told(2, 6), 33);
     }
 
     private static void duesOfGrounded() {
@@ -97,16 +99,19 @@ public final class AskTest {
         x.convoy(NORTH, 1);
         x.book(0, x.ship(NORTH, 2, false, 1, false, 33));
         x.book(0, x.ship(NORTH, 1, false, 1, false, 33));
-        Canal.until(x, 10);
+        x.convoy(NORTH, 3);
+        x.book(1, x.ship(NORTH, 3, false, 1, false, 20));
+        Canal.until(x, 14);
         Check.due("late: 99 and 9", x.told(0, 6), 108);
         Check.due("not late", x.told(1, 6), 99);
         Check.due("aground", x.ground(1, 61), 1);
-        Canal.until(x, 70);
+        Canal.until(x, 74);
         Check.due("60 minutes are not more than 60", x.told(1, 6), 99);
         Check.due("nor for the one behind", x.told(0, 6), 108);
         x.minutes(1);
         Check.due("61: 99 less 4", x.told(1, 6), 95);
         Check.due("61: 108 less 5", x.told(0, 6), 103);
+        Check.due("61: 60 less 3", x.told(2, 6), 57);
     }
 
     private static void waits() {
@@ -166,5 +171,12 @@ public final class AskTest {
         Check.due("three are out", x.count(3), 3);
         Check.due("none in sections", x.count(6), 0);
         Check.due("no way any more", x.count(7), 0);
+
+        ShipCut y = Canal.of(".BBBBBBB", 2);
+        Canal.convoyOf(y, SOUTH, 1, 1);
+        Canal.until(y, 15);
+        Check.due("in bypasses until now", y.count(7), 0);
+        y.minutes(1);
+        Check.due("one of the south way in section 0", y.count(7), 1);
     }
 }

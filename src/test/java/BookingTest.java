@@ -224,5 +224,14 @@ public final class BookingTest {
         Check.due("and in at it", x.told(1, 4), 4);
         Check.due("the other one is left", x.told(0, 3), 1);
         Check.due("south begins at section 7", x.told(1, 0), 7);
+
+        // The next start may be the last minute of all, and of a convoy with a lesser number.
+        ShipCut y = Canal.of("BBBBBBBB", 5);
+        y.convoy(SOUTH, 9999);
+        y.convoy(SOUTH, 1);
+        y.book(1, Canal.ship(y, SOUTH, 2));
+        Canal.until(y, 3);
+        Check.due("put off to the last minute", y.told(0, 8), 0);
+        Check.due("and not left", y.told(0, 3), 0);
     }
 }

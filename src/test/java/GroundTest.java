@@ -43,6 +43,7 @@ public final class GroundTest {
         x.ground(0, 3);
         Canal.until(x, 7);
         Check.due("left", x.told(0, 7), 1);
+        Check.due("aground to the last minute", x.ground(0, 9), ShipCut.NO);
         Check.due("no minute less", x.told(0, 1), 7);
         Canal.until(x, 8);
         Check.due("none left", x.told(0, 7), 0);
@@ -118,6 +119,16 @@ public final class GroundTest {
         Check.due("one of the other way bars a bypass too", y.waited(1, Canal.GROUNDED), 4);
         y.minutes(1);
         Check.due("then south comes in", y.told(1, 4), 77);
+
+        ShipCut w = Canal.of("BBBBBBBB", 10);
+        Canal.convoyOf(w, SOUTH, 1, 1);
+        Canal.convoyOf(w, NORTH, 73, 1);
+        Canal.until(w, 72);
+        Check.due("south is in 0", w.told(0, 0), 0);
+        w.ground(0, 5);
+        Canal.until(w, 78);
+        Check.due("a south one bars north as well", w.waited(1, Canal.GROUNDED), 4);
+        Check.due("until it is afloat", w.told(1, 4), 77);
 
         // Of one way in the section, those of the other way there go on.
         ShipCut z = Canal.of("BBBBBBBB", 10);

@@ -115,6 +115,13 @@ public final class MinutesTest {
         x.minutes(1);
         Check.due("north is out", x.told(0, 5), 17);
         Check.due("south came in at once", x.told(1, 4), 17);
+
+        ShipCut y = Canal.of("........", 2);
+        Canal.convoyOf(y, SOUTH, 1, 1);
+        Canal.convoyOf(y, NORTH, 2, 1);
+        Canal.until(y, 17);
+        Check.due("south is in the chain", y.told(0, 0), 0);
+        Check.due("north is kept out from its start on", y.waited(1, Canal.ONCOMING), 15);
     }
 
     private static void chainsEndAtBypasses() {
