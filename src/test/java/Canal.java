@@ -22,9 +22,14 @@ final class Canal {
 
     /** Ships that are there at minute 0, and a convoy of their way with all of them. */
     static int convoyOf(ShipCut x, int way, int start, int howMany) {
+        return deepConvoyOf(x, way, start, howMany, 1);
+    }
+
+    /** The same, of ships with a draught that the depths can matter to. */
+    static int deepConvoyOf(ShipCut x, int way, int start, int howMany, int draught) {
         int convoy = x.convoy(way, start);
         for (int i = 0; i < howMany; i++) {
-            x.book(convoy, ship(x, way, 0));
+            x.book(convoy, x.ship(way, 0, false, draught, false, 100));
         }
         return convoy;
     }

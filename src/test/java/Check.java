@@ -2,24 +2,33 @@
 final class Check {
     private static int wrong = 0;
     private static int asked = 0;
+    private static String sentence = "";
 
     private Check() {
+    }
+
+    /** The document's words that the next answers are about; they are printed with each wrong one. */
+    static void sentence(String words) {
+        sentence = words;
     }
 
     static void due(String call, long got, long want) {
         asked++;
         if (got != want) {
-            wrong++;
-            System.out.println(call + " answered " + got + ", due is " + want);
+            tellWrong(call + " answered " + got + ", due is " + want);
         }
     }
 
     static void holds(String what, boolean does) {
         asked++;
         if (!does) {
-            wrong++;
-            System.out.println("does not hold: " + what);
+            tellWrong("does not hold: " + what);
         }
+    }
+
+    private static void tellWrong(String text) {
+        wrong++;
+        System.out.println(sentence.isEmpty() ? text : "\"" + sentence + "\": " + text);
     }
 
     static void finish() {

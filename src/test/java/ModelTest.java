@@ -4,6 +4,8 @@ import java.util.Random;
 public final class ModelTest {
     private static final int RUNS = 1500;
     private static final int CALLS = 512;
+    // How many of these are kept for the questions at the end: none, rows and counts, told, waited.
+    private static final int[] CALLS_OF_PART = {0, 134, 270, 240};
     private static final int[] WILD = {Integer.MIN_VALUE, -1000000, -1, 0, 1, 10000, 1000000, Integer.MAX_VALUE};
     private static final long[] WAITS = new long[7];
     private static int outs, lefts, lates, grounds, wrongRuns;
@@ -28,9 +30,10 @@ public final class ModelTest {
         ShipCut x = new ShipCut();
         Model m = new Model();
         int style = r.nextInt(6);
-        for (int i = 0; i < CALLS; i++) {
+        int part = run % CALLS_OF_PART.length;
+        for (int i = 0; i < CALLS - CALLS_OF_PART[part]; i++) {
             int promise = choose(r, i, style);
-            int[] a = arguments(r, promise, x.count(2), style);
+            int[] a = arguments(r, promise, modelCount(m, 2), style);
             if (r.nextInt(60) == 0) {
                 a[r.nextInt(a.length)] = WILD[r.nextInt(WILD.length)];
             }
@@ -45,7 +48,8 @@ public final class ModelTest {
                 return;
             }
         }
-        compareAll(run, x, m);
+        compareAtEnd(run, part, x, m);
+        tally(m);
     }
 
     /** First the canal, then ships, convoys and bookings, then minutes among all other calls. */
@@ -103,19 +107,24 @@ public final class ModelTest {
         }
     }
 
-    private static void compareAll(int run, ShipCut x, Model m) {
-        for (int what = 0; what < 8; what++) {
-            Check.due("run " + run + " count " + what, x.count(what), m.call(15, new int[] {what}));
+    /** One part of all that can be asked: all of it would be more calls than an object is promised for. */
+    private static void compareAtEnd(int run, int part, ShipCut x, Model m) {
+        if (part == 1) {
+            compareRows(run, x, m);
         }
-        Check.holds("run " + run + ": one way at most in a section", x.count(7) <= 1);
-        for (int s = 0; s < x.count(0); s++) {
-            for (int what = 0; what < 9; what++) {
+        for (int s = 0; s < modelCount(m, 0); s++) {
+            for (int what = 0; part == 2 && what < 9; what++) {
                 Check.due("run " + run + " told " + s + " " + what, x.told(s, what), m.call(11, new int[] {s, what}));
             }
-            for (int cause = 0; cause < 7; cause++) {
+            for (int cause = -1; part == 3 && cause < 7; cause++) {
                 Check.due("run " + run + " waited " + s + " " + cause, x.waited(s, cause), m.call(12, new int[] {s, cause}));
-                WAITS[cause] += x.waited(s, cause);
             }
+        }
+    }
+
+    private static void compareRows(int run, ShipCut x, Model m) {
+        for (int what = 0; what < 8; what++) {
+            Check.due("run " + run + " count " + what, x.count(what), modelCount(m, what));
         }
         for (int way = 0; way < 2; way++) {
             for (int i = 0; i < 31; i++) {
@@ -127,8 +136,22 @@ public final class ModelTest {
                 }
             }
         }
-        outs += x.count(3);
-        lefts += x.count(4);
-        lates += x.count(5);
+    }
+
+    private static int modelCount(Model m, int what) {
+        return m.call(15, new int[] {what});
+    }
+
+    /** What happened in a run, by the model that the run was held against. */
+    private static void tally(Model m) {
+        Check.holds("one way at most in a section", modelCount(m, 7) <= 1);
+        for (int s = 0; s < modelCount(m, 0); s++) {
+            for (int cause = 0; cause < 7; cause++) {
+                WAITS[cause] += m.call(12, new int[] {s, cause});
+            }
+        }
+        outs += modelCount(m, 3);
+        lefts += modelCount(m, 4);
+        lates += modelCount(m, 5);
     }
 }
