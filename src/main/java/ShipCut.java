@@ -381,16 +381,17 @@ public final class ShipCut {
 
     private int depthNow(Section section) {
         boolean isTidal = section.number == 0 || section.number == LAST_SECTION;
-        return isTidal ? section.depth + tides[hourNow()] : section.depth;
+        return isTidal ? section.depth + ofThisHour(tides) : section.depth;
     }
 
     private boolean windBarsGreat() {
-        int force = winds[hourNow()];
+        int force = ofThisHour(winds);
         return force == MISSING || force > MOST_WIND_FOR_GREAT;
     }
 
-    private int hourNow() {
-        return now / 60 % HOURS;
+    private int ofThisHour(int[] byHours) {
+        int hour = now / 60 % HOURS;
+        return hour >= 0 && hour < byHours.length ? byHours[hour] : 0;
     }
 
     // ---- what can be asked ----

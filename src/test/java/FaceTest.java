@@ -78,6 +78,16 @@ public final class FaceTest {
             Check.holds(c + " is static and not public", Modifier.isStatic(mods) && !Modifier.isPublic(mods)
                 && !Modifier.isProtected(mods));
             Check.holds(c + " has some twenty fields at most", c.getDeclaredFields().length <= 20);
+            for (Method m : c.getDeclaredMethods()) {
+                Check.holds(m + " has at most seven parameters", m.getParameterCount() <= 7);
+            }
+            for (Constructor<?> made : c.getDeclaredConstructors()) {
+                Check.holds(made + " has at most seven parameters", made.getParameterCount() <= 7);
+            }
+            for (Field f : c.getDeclaredFields()) {
+                Check.holds(f + " is final if it is static", !Modifier.isStatic(f.getModifiers())
+                    || Modifier.isFinal(f.getModifiers()));
+            }
         }
     }
 
@@ -90,15 +100,31 @@ public final class FaceTest {
         }
         Check.holds("no lambda and no method reference", !code.contains("->") && !code.contains("::"));
         Check.holds("no function that ends in Exact", !Pattern.compile("\\w+Exact\\b").matcher(code).find());
+        Check.holds("no index is the answer of a call, which no one has looked at",
+            !Pattern.compile("(?<!new )\\b\\w+\\[[^\\]]*\\(").matcher(code).find());
         Matcher math = Pattern.compile("\\bMath\\.(\\w+)").matcher(code);
         while (math.find()) {
             Check.holds("Math." + math.group(1), Set.of("max", "min", "abs").contains(math.group(1)));
         }
+        Check.holds("no method is longer than some sixty lines", longestMethod(text) <= 60);
         for (int i = 0; i < text.length(); i++) {
             if (text.charAt(i) > 126) {
                 Check.holds("plain letters alone", false);
                 break;
             }
         }
+    }
+
+    /** In lines, by the indents: a method's last line is a brace as deep in as its first one. */
+    private static int longestMethod(String text) {
+        Matcher method = Pattern.compile("(?ms)^( {4}| {8})(?:public |private |static )*\\w+(?:\\[\\])? \\w+\\([^)]*\\) \\{$.*?^\\1\\}$").matcher(text);
+        int longest = 0;
+        int found = 0;
+        while (method.find()) {
+            found++;
+            longest = Math.max(longest, method.group().split("\n").length);
+        }
+        Check.holds("methods were found", found > 30);
+        return longest;
     }
 }
