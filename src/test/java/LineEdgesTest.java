@@ -14,6 +14,8 @@ public final class LineEdgesTest {
         lateByNumbers();
         behindTheLineWhenLate();
         leastStartAbove();
+        leastStartInAnyOrder();
+        ofTheirWay();
         leastNumberOfSeveral();
         putOffBehindPutOff();
         putOffToFullConvoy();
@@ -240,6 +242,50 @@ public final class LineEdgesTest {
         lineIs("in the last minute too", x, NORTH, 0, 1, 2, 3);
     }
 
+    private static void leastStartInAnyOrder() {
+        int[][] orders = {{6, 7, 8}, {6, 8, 7}, {7, 6, 8}, {7, 8, 6}, {8, 6, 7}, {8, 7, 6}};
+        for (int way = 0; way < 2; way++) {
+            for (int[] starts : orders) {
+                ShipCut x = shut();
+                x.book(x.convoy(way, 1), deepShip(x, way, 3));
+                int least = 0;
+                for (int k = 0; k < 3; k++) {
+                    int convoy = x.convoy(way, starts[k]);
+                    least = starts[k] == 6 ? convoy : least;
+                }
+                Canal.until(x, 6);
+                String order = "way " + way + ", starts " + java.util.Arrays.toString(starts);
+                Check.due(order, x.told(0, 8), least);
+                lineIs(order + ", not yet", x, way);
+                x.minutes(1);
+                lineIs(order + ", at the least of them", x, way, 0);
+            }
+        }
+    }
+
+    private static void ofTheirWay() {
+        for (int way = 0; way < 2; way++) {
+            ShipCut x = shut();
+            x.convoy(1 - way, 5);
+            x.book(x.convoy(way, 1), deepShip(x, way, 3));
+            x.convoy(way, 7);
+            x.convoy(1 - way, 6);
+            x.convoy(1 - way, 7);
+            Canal.until(x, 7);
+            Check.due("way " + way + ", though others start earlier", x.told(0, 8), 2);
+            lineIs("way " + way + ", others have started", x, way);
+            x.minutes(1);
+            lineIs("way " + way + ", its own has", x, way, 0);
+            ShipCut y = shut();
+            y.book(y.convoy(way, 1), deepShip(y, way, 3));
+            y.convoy(1 - way, 6);
+            Canal.until(y, 8);
+            Check.due("way " + way + ", left, with one of the other way to come", y.told(0, 3), 1);
+            lineIs("way " + way + ", in no line", y, 0);
+            lineIs("way " + way + ", in no line", y, 1);
+        }
+    }
+
     private static void leastNumberOfSeveral() {
         Check.sentence("(of several the least number)");
         ShipCut x = shut();
@@ -294,26 +340,32 @@ public final class LineEdgesTest {
 
     private static void wholeFleetInLine() {
         Check.sentence("A LINE for each WAY: SHIPS that are to come in, in order.");
-        // 22 late ones are put off to a convoy of eight: all ships there can be are in one line.
+        for (int way = 0; way < 2; way++) {
+            wholeFleetInLine(way);
+        }
+    }
+
+    /** 22 late ones are put off to a convoy of eight: all ships there can be are in one line. */
+    private static void wholeFleetInLine(int way) {
         ShipCut x = shut();
-        int last = x.convoy(NORTH, 20);
+        int last = x.convoy(way, 20);
         for (int i = 0; i < 8; i++) {
-            x.book(last, deepShip(x, NORTH, 0));
+            x.book(last, deepShip(x, way, 0));
         }
         for (int i = 8; i < 30; i++) {
             if (i % 8 == 0) {
-                x.convoy(NORTH, i / 8);
+                x.convoy(way, i / 8);
             }
-            x.book(i / 8, deepShip(x, NORTH, 10));
+            x.book(i / 8, deepShip(x, way, 10));
         }
         Canal.until(x, 21);
-        Check.due("22 are late", x.count(5), 22);
-        Check.due("none is left", x.count(4), 0);
+        Check.due("22 are late of way " + way, x.count(5), 22);
+        Check.due("none is left of way " + way, x.count(4), 0);
         for (int i = 0; i < 30; i++) {
-            Check.due("the line, " + i, x.line(NORTH, i), i);
+            Check.due("the line of way " + way + ", " + i, x.line(way, i), i);
         }
-        Check.due("behind the last one", x.line(NORTH, 30), ShipCut.NONE);
-        Check.due("the last one waits in the queue", x.waited(29, Canal.QUEUE), 1);
+        Check.due("behind the last one of way " + way, x.line(way, 30), ShipCut.NONE);
+        Check.due("the last one of way " + way + " waits in the queue", x.waited(29, Canal.QUEUE), 1);
     }
 
     private static void leftForGood() {
